@@ -59,6 +59,7 @@ public final class ElectionsTest {
         Due.is("17: 21st, though one is missing", b.candidate(2), FULL);
         Due.is("17: BAD ahead of FULL", b.candidate(4), BAD);
         Due.is("17: count(6)", b.count(6), 20);
+        Due.is("17: there is no candidate 20", b.withdraw(20), BAD);
         SocietyBook c = Books.withFellows(16);
         Due.is("17: sixteen proposers", c.candidate(65535), 0);
         Due.is("17: a 17th", c.candidate(65536), BAD);
@@ -105,10 +106,21 @@ public final class ElectionsTest {
         Due.is("20: too many black", b.ballot(0, 0, 2), 4);
         Due.is("20: too few white", b.ballot(0, 1, 1), 5);
         Due.is("20: none at all", b.ballot(0, 0, 0), 5);
+        Due.is("20: of all balls", byWhiteParts(51, 100).ballot(0, 51, 50), 5);
+        Due.is("20: of all balls", byWhiteParts(51, 100).ballot(0, 51, 49), 1);
+        Due.is("20: all must be white", byWhiteParts(100, 100).ballot(0, 1000, 1), 5);
+        Due.is("20: all are white", byWhiteParts(100, 100).ballot(0, 1000, 0), 1);
         Due.is("20: asked()", b.asked(), 0);
         Due.is("20: count(1)", b.count(1), 3);
         Due.is("20: at the edge of all", b.ballot(0, 2, 1), 1);
         Due.is("20: asked()", b.asked(), 3);
+    }
+
+    private static SocietyBook byWhiteParts(int u, int l) {
+        SocietyBook b = new SocietyBook();
+        b.byelaw(0, 0, 0, 100, u, l);
+        b.candidate(0);
+        return b;
     }
 
     private static void p20BallotElects() {
@@ -195,8 +207,10 @@ public final class ElectionsTest {
 
     private static void p22Award() {
         SocietyBook b = Books.withFellows(2);
-        b.medal(0, 10, 30);
+        b.medal(0, 60, 30);
         b.later(50);
+        Due.is("22: no gap ahead of the first award", b.award(0, 0), 3);
+        b.medal(0, 10, 30);
         Due.is("22: no paper", b.award(0, 0), 3);
         b.paper(0, 0, 0, 0, 0);
         b.note(0, 0, 20);

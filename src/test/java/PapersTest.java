@@ -83,7 +83,7 @@ public final class PapersTest {
         Due.is("4: post 5 to", b.when(0, 0, 0, true), 500);
         Due.is("4: post 0 from", b.when(1, 0, 0, false), 500);
         Due.is("4: post 1 at first", b.when(2, 0, 0, true), 0);
-        b.post(5, 1, 2);
+        Due.is("4: post(5, 0, 0)", b.post(5, 0, 0), 1);
         Due.is("4: a letter keeps its span", b.when(0, 0, 0, true), 500);
     }
 
@@ -111,6 +111,7 @@ public final class PapersTest {
         Due.is("5: 25th", b.paper(0, 0, 1, 0, 0), FULL);
         Due.is("5: BAD ahead of FULL", b.paper(2, 0, 1, 11, 0), BAD);
         Due.is("5: count(2)", b.count(2), 24);
+        Due.is("5: there is no paper 24", b.told(24, 0), BAD);
     }
 
     private static void p06NoteOrder() {

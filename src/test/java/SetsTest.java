@@ -17,6 +17,7 @@ public final class SetsTest {
         p32SwapsShareSpares();
         p33Whole();
         p33WholeOfNothing();
+        p33WholeWithAllPartners();
         Due.end("SetsTest");
     }
 
@@ -55,6 +56,11 @@ public final class SetsTest {
         Due.is("26: a byte is 0", b.lay(3, 11, 77), 1000);
         Due.is("26: anew", b.sheet(3, 12), 12);
         Due.is("26: a byte is 0 again", b.lay(3, 11, 77), 1000);
+        b.lay(3, 0, 5);
+        b.sheet(3, 1);
+        Due.is("26: the first byte, too", b.lay(3, 0, 5), 1000);
+        b.sheet(3, 12);
+        b.lay(3, 11, 77);
         Due.is("26: thirteen", b.sheet(3, 13), BAD);
         Due.is("26: fewer than none", b.sheet(3, -1), FINDING);
         Due.is("26: SIZE", b.finding(), 5);
@@ -181,6 +187,10 @@ public final class SetsTest {
         Due.is("30: BAD ahead of NOTHING", b.fill(6, 0), BAD);
         b.sheet(0, 12);
         Due.is("30: twelve bytes", b.fill(2, 0), 0);
+        b.lay(0, 11, 8);
+        Due.is("30: the society", b.fill(0, 0), 8);
+        Due.is("30: the last partner", b.fill(5, 0), 8);
+        Due.is("30: the last number", b.copies(5, 11), 8);
     }
 
     private static void p31Lacks() {
@@ -264,5 +274,18 @@ public final class SetsTest {
         b.stock(0, 0, 1);
         Due.is("33: nothing lacks", b.whole(), 0);
         Due.is("33: no partners", b.asked(), 0);
+    }
+
+    private static void p33WholeWithAllPartners() {
+        SocietyBook b = new SocietyBook();
+        Books.stock(b, 0, 6, 0, 0, 0, 0, 0, 1, 1, 1, 1, 1, 1);
+        for (int partner = 1; partner <= 5; partner++) {
+            b.stock(partner, partner, 2);
+        }
+        Due.is("33: all partners", b.whole(), 5);
+        Due.is("33: asked()", b.asked(), 62);
+        b.stock(0, 0, 2);
+        Due.is("32: one spare among all partners", b.swaps(62), 1);
+        Due.is("33: it does not do", b.whole(), NONE);
     }
 }
