@@ -49,20 +49,26 @@ public final class FaceTest {
         Due.isTrue("public and final", SocietyBook.class.getModifiers() == (Modifier.PUBLIC | Modifier.FINAL));
         for (Class<?> inside : SocietyBook.class.getDeclaredClasses()) {
             Due.isTrue(inside.getName() + " is static", Modifier.isStatic(inside.getModifiers()));
+            boolean hidden = !Modifier.isPublic(inside.getModifiers()) && !Modifier.isProtected(inside.getModifiers());
+            Due.isTrue(inside.getName() + " is private or package-visible", hidden);
         }
         Due.end("FaceTest");
     }
 
     private static void noPrivateNamesake(Set<String> names) {
         for (Method m : SocietyBook.class.getDeclaredMethods()) {
-            boolean namesake = Modifier.isPrivate(m.getModifiers()) && names.contains(m.getName());
-            Due.isTrue(m.getName() + " bears no public name", !namesake);
+            mayBearItsName(m, names);
         }
         for (Class<?> inside : SocietyBook.class.getDeclaredClasses()) {
             for (Method m : inside.getDeclaredMethods()) {
-                Due.isTrue(m.getName() + " bears no public name", !names.contains(m.getName()));
+                mayBearItsName(m, names);
             }
         }
+    }
+
+    private static void mayBearItsName(Method m, Set<String> names) {
+        boolean namesake = Modifier.isPrivate(m.getModifiers()) && names.contains(m.getName());
+        Due.isTrue(m + " bears no public name", !namesake);
     }
 
     private static String told(Method m) {

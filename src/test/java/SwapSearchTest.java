@@ -11,8 +11,8 @@ public final class SwapSearchTest {
         for (int round = 0; round < 1500; round++) {
             int[][] copies = someCopies(random, round);
             SocietyBook book = new SocietyBook();
-            for (int holder = 0; holder < 6; holder++) {
-                Books.stock(book, holder, copies[holder]);
+            for (int i = 0; i < 6 * NUMBERS; i++) {
+                book.stock(i / NUMBERS, i % NUMBERS, copies[i / NUMBERS][i % NUMBERS]);
             }
             check(book, copies, round);
         }
