@@ -577,6 +577,15 @@ final class ElectionSentences {
             medal(0, 0, 0)
             award(0, 0) = 1                 # on the day itself
             """);
+        Sentence.says(22, "3 no PAPER by it was PRINTED", PRINTED, """
+            paper(0, 1, 0, 0, 0)
+            award(0, 1) = 3                 # a PAPER without NOTES, however long WITHIN is
+            note(1, 0, 0)
+            note(1, 1, 0)
+            award(0, 1) = 3
+            note(1, 2, 0)
+            award(0, 1) = 1
+            """);
         Sentence.says(22, "(by its last NOTE)", PRINTED, """
             later(50)
             medal(0, 0, 30)

@@ -30,11 +30,13 @@ final class SetSentences {
         fillRefused();
         lacks();
         swaps();
+        swapsAtMost();
         swapGets();
         swapGives();
         swapsBad();
         whole();
         wholeFewest();
+        wholeLeastBits();
         wholeNone();
     }
 
@@ -424,6 +426,17 @@ final class SetSentences {
             fill(4, 2) = 30                 # no byte
             copies(4, 11) = 9
             """);
+        Sentence.says(30, "NUMBERS for which it has no byte", """
+            sheet(0, 12)
+            lay(0, 1, 7)
+            lay(0, 2, 8)
+            sheet(0, 2)                     # anew, and shorter
+            stock(3, 0, 4)
+            stock(3, 1, 5)
+            stock(3, 2, 6)
+            fill(3, 0) = 6
+            copies(3, 2) = 6
+            """);
         Sentence.says(30, "how many copies it has in all.", """
             sheet(0, 12)
             stock(1, 0, 9)
@@ -520,6 +533,27 @@ final class SetSentences {
             swaps(2) = 0                    # nor is one with the partner
             stock(1, 0, 9)
             swaps(2) = 1
+            """);
+    }
+
+    /** Two numbers to give and ten that lack: no book allows more swaps. */
+    private static void swapsAtMost() {
+        StringBuilder givers = new StringBuilder();
+        for (int partner = 1; partner <= 5; partner++) {
+            givers.append("stock(" + partner + ", " + 2 * partner + ", 2)\n");
+            givers.append("stock(" + partner + ", " + (2 * partner + 1) + ", 2)\n");
+        }
+        Sentence.says(32, "The most SWAPS that can be done together", society("6 9 0 0 0 0 0 0 0 0 0 0"), givers.toString(), """
+            swaps(2) = 2
+            swaps(30) = 8
+            swaps(62) = 10
+            whole() = 5
+            asked() = 62
+            stock(0, 0, 5)                  # four SPARE for five partners
+            swaps(62) = 9
+            whole() = NONE
+            stock(0, 0, 0)
+            swaps(62) = 5
             """);
     }
 
@@ -659,6 +693,23 @@ final class SetSentences {
             stock(4, 0, 2)
             whole() = 1
             asked() = 8
+            """);
+    }
+
+    private static void wholeLeastBits() {
+        Sentence.says(33, "(the least bits of alike ones);", society("0 0 0 0 3 3"), """
+            stock(1, 0, 2)
+            stock(1, 1, 2)
+            stock(5, 2, 2)
+            stock(5, 3, 2)
+            whole() = 2
+            asked() = 34
+            stock(2, 0, 2)
+            stock(2, 2, 2)
+            stock(3, 1, 2)
+            stock(3, 3, 2)
+            whole() = 2
+            asked() = 12                    # bits 2 and 3 are less than bits 1 and 5
             """);
     }
 
